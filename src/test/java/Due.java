@@ -3,8 +3,14 @@ final class Due {
     private static final int MOST_PRINTED = 40;
     private static int asked = 0;
     private static int wrong = 0;
+    private static String sentence = "";
 
     private Due() {
+    }
+
+    /** The words of the document that the answers from here on are due by. */
+    static void sentence(String words) {
+        sentence = "\"" + words + "\": ";
     }
 
     static void same(String call, long got, long want) {
@@ -12,7 +18,7 @@ final class Due {
         if (got != want) {
             wrong++;
             if (wrong <= MOST_PRINTED) {
-                System.out.println(call + " answered " + got + ", due is " + want);
+                System.out.println(sentence + call + " answered " + got + ", due is " + want);
             }
         }
     }
