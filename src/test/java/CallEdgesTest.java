@@ -6,7 +6,7 @@ public final class CallEdgesTest {
     private static final int LOWEST = Integer.MIN_VALUE;
     private static final BigInteger ZERO = BigInteger.ZERO;
     private static final BigInteger ONE = BigInteger.ONE;
-        private static final int[] STATES = {MinorSteps.LOADING, MinorSteps.MORE, MinorSteps.DONE,
+    private static final int[] STATES = {MinorSteps.LOADING, MinorSteps.MORE, MinorSteps.DONE,
         MinorSteps.SINGULAR, MinorSteps.NO_ROOM};
     private static final int[] NOT_LOADING = {MinorSteps.MORE, MinorSteps.DONE,
         MinorSteps.SINGULAR, MinorSteps.NO_ROOM};
